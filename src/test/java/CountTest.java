@@ -29,6 +29,12 @@ public final class CountTest {
         DUE.is("count(MIN)", x.count(Integer.MIN_VALUE), -2);
         DUE.is("count(MAX)", x.count(Integer.MAX_VALUE), -2);
 
+        x.undo();
+        x.set(0, 650);
+        DUE.is("count(9), asked at once", x.count(9), 650);
+        x.read(0, 11);
+        DUE.is("count(8), asked at once", x.count(8), 62);
+
         HeatBills empty = new HeatBills();
         empty.set(0, 700);
         DUE.is("count(9), no flats", empty.count(9), 0);

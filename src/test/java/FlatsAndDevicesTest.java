@@ -55,6 +55,7 @@ public final class FlatsAndDevicesTest {
         DUE.is("addDevice(2, 1), unknown before full", x.addDevice(2, 1), -1);
         DUE.is("count(2)", x.count(2), 20);
         DUE.is("device(19, 1)", x.device(19, 1), 20);
+        DUE.is("flat(0, 1)", x.flat(0, 1), 0x55555);
         DUE.is("flat(1, 1)", x.flat(1, 1), 0xAAAAA);
 
         HeatBills y = Houses.withFlats(10);

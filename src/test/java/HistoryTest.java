@@ -11,6 +11,8 @@ public final class HistoryTest {
         acts();
         noActs();
         everythingComesBack();
+        otherFlatsComeBack();
+        fewerFlatsThanBefore();
         DUE.end();
     }
 
@@ -151,6 +153,40 @@ public final class HistoryTest {
         x.undo();
         x.undo();
         same("undo()", x, before);
+    }
+
+    private static void otherFlatsComeBack() {
+        HeatBills x = Houses.withFlats(10, 20);
+        x.addDevice(1, 7);
+        x.keep();
+        x.undo();
+        x.undo();
+        DUE.is("count(1)", x.count(1), 1);
+        DUE.is("count(2)", x.count(2), 0);
+        x.addFlat(30);
+        x.addDevice(0, 8);
+        x.restore();
+        DUE.is("flat(1, 0)", x.flat(1, 0), 20);
+        DUE.is("device(0, 0)", x.device(0, 0), 1);
+        DUE.is("device(0, 1)", x.device(0, 1), 7);
+        x.undo();
+        DUE.is("flat(1, 0)", x.flat(1, 0), 30);
+        DUE.is("device(0, 0)", x.device(0, 0), 0);
+        DUE.is("device(0, 1)", x.device(0, 1), 8);
+    }
+
+    private static void fewerFlatsThanBefore() {
+        HeatBills x = Houses.withFlats(10);
+        x.set(0, 100);
+        x.addDevice(0, 1);
+        x.addFlat(30);
+        x.close();
+        DUE.is("count(10)", x.count(10), 100);
+        x.undo();
+        x.undo();
+        x.close();
+        DUE.is("count(10), of one flat", x.count(10), 100);
+        DUE.is("correct(0, 0, 7)", x.correct(0, 0, 7), 0);
     }
 
     private static int[] allAnswers(HeatBills x) {

@@ -46,6 +46,8 @@ public final class ReadAllTest {
         fault("00=1", -101);
         fault("01=1", -101);
         fault("20=1", -101);
+        fault("21=1", -101);
+        fault("29=1", -101);
         fault("90=1", -101);
         fault("1", -101);
         fault("19", -102);
@@ -61,6 +63,8 @@ public final class ReadAllTest {
         fault("0=00", -103);
         fault("0=1?", -103);
         fault("0=12345", -106);
+        fault("0=10000", -106);
+        fault("0=10001", -106);
         fault("0=99990", -106);
         fault("0=1=", -103);
         fault("0=1;", -104);

@@ -79,6 +79,10 @@ public final class ReadingsTest {
         x.mark(1, true);
         DUE.is("device(0, 5), none is sound", x.device(0, 5), 0);
         DUE.is("count(8), none is sound", x.count(8), 0);
+        x.mark(2, false);
+        x.read(2, 7);
+        DUE.is("device(3, 5), by one device of factor 1", x.device(3, 5), 35);
+        x.mark(2, true);
         x.set(2, 1);
         x.mark(0, false);
         DUE.is("device(2, 5), no year before: 1 * 20 / 2", x.device(2, 5), 10);

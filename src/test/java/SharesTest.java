@@ -122,5 +122,12 @@ public final class SharesTest {
         DUE.is("bestShare(1), nothing is base", y.bestShare(1), 0);
         y.set(0, 0);
         DUE.is("bestShare(0), no cost", y.bestShare(0), 0);
+        // with the share 1, flat 0 gets a coin of the base cost and a coin more of the other 99
+        HeatBills z = Houses.withFlats(1, 1);
+        z.set(0, 100);
+        DUE.is("billIf(1, 0)", z.billIf(1, 0), 50);
+        DUE.is("billIf(1, 1)", z.billIf(1, 1), 49);
+        DUE.is("bestShare(0)", z.bestShare(0), 0);
+        DUE.is("bestShare(1), between others", z.bestShare(1), 1);
     }
 }
