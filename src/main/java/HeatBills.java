@@ -564,7 +564,10 @@ public final class HeatBills {
             System.arraycopy(other.factors, 0, factors, 0, MAX_DEVICES);
             System.arraycopy(other.beginReadings, 0, beginReadings, 0, MAX_DEVICES);
             System.arraycopy(other.endReadings, 0, endReadings, 0, MAX_DEVICES);
-            System.arraycopy(other.faulty, 0, faulty, 0, MAX_DEVICES);
+            // arraycopy is for numbers alone
+            for (int device = 0; device < MAX_DEVICES; device++) {
+                faulty[device] = other.faulty[device];
+            }
             manner = other.manner;
             corrections = other.corrections;
             openYear.copyFrom(other.openYear);

@@ -110,6 +110,12 @@ public final class LanguageTest {
         while (library.find()) {
             DUE.holds(library.group(), Set.of("System.arraycopy", "Arrays.fill").contains(library.group()));
         }
+        Matcher truths = Pattern.compile("boolean\\[\\] (\\w+);").matcher(code);
+        while (truths.find()) {
+            String name = truths.group(1);
+            boolean isCopied = Pattern.compile("(?:arraycopy|fill)\\([^;]*\\b" + name + "\\b").matcher(code).find();
+            DUE.holds("the library copies and fills numbers alone, not " + name, !isCopied);
+        }
         // a nested class or an if stands deeper: a method's last line is the next "    }" or "        }"
         Matcher methods = Pattern.compile("(?ms)^( {4}| {8})(?! |private static final class)[^\n;=]*\\) \\{\n.*?^\\1\\}").matcher(code);
         int found = 0;
