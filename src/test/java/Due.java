@@ -33,7 +33,7 @@ final class Due {
         }
     }
 
-    private String document() {
+    String document() {
         if (document == null) {
             try {
                 document = Files.readString(Path.of(System.getProperty("heatbills.document", "../shared/DOC.md")));

@@ -6,7 +6,9 @@ import java.lang.reflect.Method;
 import java.lang.reflect.Modifier;
 import java.nio.file.Files;
 import java.nio.file.Path;
+import java.util.ArrayList;
 import java.util.Arrays;
+import java.util.List;
 import java.util.Set;
 import java.util.TreeSet;
 import java.util.regex.Matcher;
@@ -29,6 +31,7 @@ public final class LanguageTest {
     public static void main(String[] args) throws IOException {
         face();
         classesInside();
+        sections();
         source();
         madeObjects();
         DUE.end();
@@ -87,9 +90,32 @@ public final class LanguageTest {
         }
     }
 
+    private static String classText() throws IOException {
+        return Files.readString(Path.of(System.getProperty("heatbills.source", "src/main/java/HeatBills.java")));
+    }
+
+    /** The headings that the document wants ahead of the calls, and the calls behind each. */
+    private static void sections() throws IOException {
+        Pattern section = Pattern.compile("Ahead of the calls (.*?) the interface says: ---- ([^.]*)\\.");
+        List<String> wanted = new ArrayList<>();
+        Matcher told = section.matcher(DUE.document());
+        while (told.find()) {
+            wanted.add("---- " + told.group(2));
+            for (String call : told.group(1).split(", ")) {
+                wanted.add(call.replace("`", ""));
+            }
+        }
+        List<String> found = new ArrayList<>();
+        Matcher line = Pattern.compile("(?m)^    (?:// (---- .*)|public int (\\w+)\\(.*)$").matcher(classText());
+        while (line.find()) {
+            found.add(line.group(1) != null ? line.group(1) : line.group(2));
+        }
+        DUE.is("headings and calls", found.size(), 6 + FACE.size());
+        DUE.holds("each call stands behind its heading: " + found, found.equals(wanted));
+    }
+
     private static void source() throws IOException {
-        String path = System.getProperty("heatbills.source", "src/main/java/HeatBills.java");
-        String whole = Files.readString(Path.of(path));
+        String whole = classText();
         String code = whole.replaceAll("(?s)/\\*.*?\\*/", "").replaceAll("//[^\n]*", "");
         DUE.holds("signs of the source are 1 to 127", whole.chars().allMatch(sign -> sign > 0 && sign < 128));
         DUE.holds("no package", !code.contains("package "));
